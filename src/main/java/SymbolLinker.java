@@ -1,4 +1,3 @@
-import java.util.ArrayList;
 import java.util.Arrays;
 import java.util.NoSuchElementException;
 
@@ -46,44 +45,52 @@ public final class SymbolLinker {
     private static final int SIZE = 6;
     private static final int PARTS = 7;
 
-    private static final int FIRST_BYTES = 256;
-    private static final int FIRST_ROWS = 16;
-
-    private final ArrayList<Unit> units;
-    private final ArrayList<Name> names;
-    private final ArrayList<Wait> waits;
-    private final ArrayList<Start> starts;
+    // What a run makes is counted: rows are made here, as long as their limits, and no call makes longer ones.
+    private final Unit[] units;
+    private final Name[] names;
+    private final Symbol[] symbols;
+    private final Wait[] waits;
+    private final Start[] starts;
+    // The bytes of all sections but bss, one section behind the other.
+    private final byte[] bytes;
     private final Fault latestFault;
     private final Image image;
     // The parts of the link under way: the image's own must stay if it fails.
     private final int[] plan;
-    // The bytes of all sections but bss stand in one row, so that clear() and unit() make no new ones.
-    private byte[] bytes;
-    private int bytesUsed;
+    private int unitCount;
+    private int nameCount;
     private int symbolCount;
+    private int waitCount;
+    private int startCount;
+    private int bytesUsed;
     private int lastEnd;
 
     public SymbolLinker() {
-        units = new ArrayList<Unit>();
-        names = new ArrayList<Name>();
-        waits = new ArrayList<Wait>();
-        starts = new ArrayList<Start>();
+        units = new Unit[MOST_UNITS];
+        names = new Name[MOST_SYMBOLS];
+        symbols = new Symbol[MOST_SYMBOLS];
+        waits = new Wait[MOST_WAITS];
+        starts = new Start[MOST_STARTS];
+        bytes = new byte[MOST_BYTES];
         latestFault = new Fault();
         image = new Image();
         plan = new int[PARTS];
-        bytes = new byte[FIRST_BYTES];
-        bytesUsed = 0;
+        unitCount = 0;
+        nameCount = 0;
         symbolCount = 0;
+        waitCount = 0;
+        startCount = 0;
+        bytesUsed = 0;
         lastEnd = BASE;
     }
 
     public void clear() {
-        units.clear();
-        names.clear();
-        waits.clear();
-        starts.clear();
-        bytesUsed = 0;
+        unitCount = 0;
+        nameCount = 0;
         symbolCount = 0;
+        waitCount = 0;
+        startCount = 0;
+        bytesUsed = 0;
     }
 
     public int unit(boolean library, int text, int rodata, int data, int bss) {
@@ -91,15 +98,16 @@ public final class SymbolLinker {
             return NONE;
         }
         int more = text + rodata + data;
-        if (more > MOST_BYTES - bytesUsed || units.size() >= MOST_UNITS) {
+        if (more > MOST_BYTES - bytesUsed || unitCount >= MOST_UNITS) {
             return NONE;
         }
-        Unit unit = new Unit(units.size(), library);
+        Unit unit = new Unit(unitCount, library, symbols, symbolCount);
         addSection(unit, TEXT, text);
         addSection(unit, RODATA, rodata);
         addSection(unit, DATA, data);
         unit.sections[BSS] = new Section(unit, bss, 0);
-        units.add(unit);
+        units[unitCount] = unit;
+        unitCount++;
         return unit.number;
     }
 
@@ -138,18 +146,18 @@ public final class SymbolLinker {
             return NONE;
         }
         if (name == null) {
-            name = new Name(nameWord(word, n), n);
-            names.add(name);
+            name = addName(nameWord(word, n), n);
         }
-        unit.symbols.add(new Symbol(name, marks, home, place, line));
+        symbols[symbolCount] = new Symbol(name, marks, home, place, line);
         symbolCount++;
-        return unit.symbols.size() - 1;
+        unit.symbolsEnd = symbolCount;
+        return symbolCount - 1 - unit.symbolsBegin;
     }
 
     public boolean await(int section, int place, int size, int next, int what, long v, int line) {
         Unit unit = latestUnit();
         Section home = latestSection(section);
-        if (unit == null || home == null || section == BSS || waits.size() >= MOST_WAITS) {
+        if (unit == null || home == null || section == BSS || waitCount >= MOST_WAITS) {
             return false;
         }
         if ((size != 4 && size != 8) || !home.holds(place, size) || !isLine(line)) {
@@ -167,16 +175,18 @@ public final class SymbolLinker {
         wait.next = next;
         wait.symbol = symbol;
         wait.beginning = beginning;
-        waits.add(wait);
+        waits[waitCount] = wait;
+        waitCount++;
         return true;
     }
 
     public boolean start(int place, int line) {
         Section text = latestSection(TEXT);
-        if (text == null || !text.holds(place, 1) || !isLine(line) || starts.size() >= MOST_STARTS) {
+        if (text == null || !text.holds(place, 1) || !isLine(line) || startCount >= MOST_STARTS) {
             return false;
         }
-        starts.add(new Start(text, place, line));
+        starts[startCount] = new Start(text, place, line);
+        startCount++;
         return true;
     }
 
@@ -219,10 +229,10 @@ public final class SymbolLinker {
     }
 
     public int needed(int u, int section) {
-        if (u < 0 || u >= units.size()) {
+        if (u < 0 || u >= unitCount) {
             return NONE;
         }
-        Section asked = units.get(u).sectionOfKind(section);
+        Section asked = units[u].sectionOfKind(section);
         if (asked == null) {
             return NONE;
         }
@@ -281,10 +291,6 @@ public final class SymbolLinker {
         return (number + step - 1) & -step;
     }
 
-    private static int grownLength(int length, int wanted, int most) {
-        return Math.min(most, Math.max(wanted, 2 * length));
-    }
-
     private static void storeLowestFirst(byte[] row, int from, long v, int n) {
         for (int k = 0; k < n; k++) {
             row[from + k] = (byte) (v >> (8 * k));
@@ -292,7 +298,7 @@ public final class SymbolLinker {
     }
 
     private Unit latestUnit() {
-        return units.isEmpty() ? null : units.get(units.size() - 1);
+        return unitCount == 0 ? null : units[unitCount - 1];
     }
 
     private Section latestSection(int kind) {
@@ -302,9 +308,7 @@ public final class SymbolLinker {
 
     private void addSection(Unit unit, int kind, int size) {
         int end = bytesUsed + size;
-        if (end > bytes.length) {
-            bytes = Arrays.copyOf(bytes, grownLength(bytes.length, end, MOST_BYTES));
-        }
+        // What units that clear() took away have left there goes.
         Arrays.fill(bytes, bytesUsed, end, (byte) 0);
         unit.sections[kind] = new Section(unit, size, bytesUsed);
         bytesUsed = end;
@@ -312,13 +316,23 @@ public final class SymbolLinker {
 
     private Name findName(long word, int n) {
         long wanted = nameWord(word, n);
-        for (int k = 0; k < names.size(); k++) {
-            Name name = names.get(k);
+        for (int k = 0; k < nameCount; k++) {
+            Name name = names[k];
             if (name.word == wanted && name.length == n) {
                 return name;
             }
         }
         return null;
+    }
+
+    private Name addName(long word, int n) {
+        Name name = new Name(word, n);
+        // Every name is some symbol's: there are never more of them than symbols.
+        if (nameCount < MOST_SYMBOLS) {
+            names[nameCount] = name;
+            nameCount++;
+        }
+        return name;
     }
 
     private Symbol entryLabel() {
@@ -327,11 +341,11 @@ public final class SymbolLinker {
     }
 
     private void takeUnits() {
-        for (int k = 0; k < names.size(); k++) {
-            names.get(k).forget();
+        for (int k = 0; k < nameCount; k++) {
+            names[k].forget();
         }
-        for (int k = 0; k < units.size(); k++) {
-            Unit unit = units.get(k);
+        for (int k = 0; k < unitCount; k++) {
+            Unit unit = units[k];
             unit.taken = false;
             if (!unit.library) {
                 unit.take();
@@ -345,8 +359,8 @@ public final class SymbolLinker {
     }
 
     private Unit firstWantedUnit() {
-        for (int k = 0; k < units.size(); k++) {
-            Unit unit = units.get(k);
+        for (int k = 0; k < unitCount; k++) {
+            Unit unit = units[k];
             if (!unit.taken && unit.isWanted()) {
                 return unit;
             }
@@ -355,8 +369,8 @@ public final class SymbolLinker {
     }
 
     private void bindNames() {
-        for (int k = 0; k < units.size(); k++) {
-            Unit unit = units.get(k);
+        for (int k = 0; k < unitCount; k++) {
+            Unit unit = units[k];
             if (unit.taken) {
                 unit.bindLabels();
             }
@@ -364,8 +378,8 @@ public final class SymbolLinker {
     }
 
     private void findTwoGlobals() {
-        for (int k = 0; k < units.size(); k++) {
-            Unit unit = units.get(k);
+        for (int k = 0; k < unitCount; k++) {
+            Unit unit = units[k];
             int line = unit.taken ? unit.leastLineOfSecondGlobals() : NONE;
             if (line != NONE) {
                 latestFault.tell(TWO_GLOBALS, line, k);
@@ -375,8 +389,8 @@ public final class SymbolLinker {
     }
 
     private void findNeeded(Section entrySection) {
-        for (int k = 0; k < units.size(); k++) {
-            units.get(k).needKeptAlone();
+        for (int k = 0; k < unitCount; k++) {
+            units[k].needKeptAlone();
         }
         if (entrySection != null) {
             entrySection.needed = true;
@@ -389,8 +403,8 @@ public final class SymbolLinker {
 
     private boolean needWhatNeededOnesAwait() {
         boolean found = false;
-        for (int k = 0; k < waits.size(); k++) {
-            Wait wait = waits.get(k);
+        for (int k = 0; k < waitCount; k++) {
+            Wait wait = waits[k];
             Section target = wait.home.needed ? wait.target() : null;
             if (target != null && !target.needed) {
                 target.needed = true;
@@ -414,8 +428,8 @@ public final class SymbolLinker {
 
     private int placeSections(int kind, int begin) {
         int end = begin;
-        for (int k = 0; k < units.size(); k++) {
-            Section section = units.get(k).sectionOfKind(kind);
+        for (int k = 0; k < unitCount; k++) {
+            Section section = units[k].sectionOfKind(kind);
             if (section != null && section.needed) {
                 section.begin = roundUp(end, STEP);
                 end = section.begin + section.size;
@@ -427,8 +441,8 @@ public final class SymbolLinker {
 
     private void findWaitFault() {
         Wait first = null;
-        for (int k = 0; k < waits.size(); k++) {
-            Wait wait = waits.get(k);
+        for (int k = 0; k < waitCount; k++) {
+            Wait wait = waits[k];
             if (wait.home.needed && wait.faultKind() != NO_FAULT && (first == null || wait.isBefore(first))) {
                 first = wait;
             }
@@ -440,24 +454,24 @@ public final class SymbolLinker {
 
     private void makeImage() {
         image.begin(plan);
-        for (int k = 0; k < units.size(); k++) {
-            copySections(units.get(k));
+        for (int k = 0; k < unitCount; k++) {
+            copySections(units[k]);
         }
-        for (int k = 0; k < waits.size(); k++) {
-            Wait wait = waits.get(k);
+        for (int k = 0; k < waitCount; k++) {
+            Wait wait = waits[k];
             if (wait.home.needed) {
                 storeLowestFirst(image.bytes, wait.home.begin - BASE + wait.place, wait.value(), wait.size);
             }
         }
-        for (int k = 0; k < names.size(); k++) {
-            Name name = names.get(k);
+        for (int k = 0; k < nameCount; k++) {
+            Name name = names[k];
             Symbol label = name.meaning();
             if (label != null && label.section != null && label.section.needed) {
                 image.addName(name, label.placeInImage());
             }
         }
-        for (int k = 0; k < starts.size(); k++) {
-            Start start = starts.get(k);
+        for (int k = 0; k < startCount; k++) {
+            Start start = starts[k];
             if (start.text.needed) {
                 image.addStart(start);
             }
@@ -477,14 +491,19 @@ public final class SymbolLinker {
         final int number;
         final boolean library;
         final Section[] sections;
-        final ArrayList<Symbol> symbols;
+        // The row of all units' symbols: the latest unit alone gets more, so each one's stand together.
+        final Symbol[] symbols;
+        final int symbolsBegin;
+        int symbolsEnd;
         boolean taken;
 
-        Unit(int number, boolean library) {
+        Unit(int number, boolean library, Symbol[] symbols, int symbolsBegin) {
             this.number = number;
             this.library = library;
             sections = new Section[KINDS];
-            symbols = new ArrayList<Symbol>();
+            this.symbols = symbols;
+            this.symbolsBegin = symbolsBegin;
+            symbolsEnd = symbolsBegin;
             taken = false;
         }
 
@@ -493,12 +512,12 @@ public final class SymbolLinker {
         }
 
         Symbol symbolNumbered(int k) {
-            return k < 0 || k >= symbols.size() ? null : symbols.get(k);
+            return k < 0 || k >= symbolsEnd - symbolsBegin ? null : symbols[symbolsBegin + k];
         }
 
         boolean hasSymbol(Name name) {
-            for (int k = 0; k < symbols.size(); k++) {
-                if (symbols.get(k).name == name) {
+            for (int k = symbolsBegin; k < symbolsEnd; k++) {
+                if (symbols[k].name == name) {
                     return true;
                 }
             }
@@ -507,8 +526,8 @@ public final class SymbolLinker {
 
         void take() {
             taken = true;
-            for (int k = 0; k < symbols.size(); k++) {
-                Symbol symbol = symbols.get(k);
+            for (int k = symbolsBegin; k < symbolsEnd; k++) {
+                Symbol symbol = symbols[k];
                 if (symbol.isSharedLabel()) {
                     symbol.name.had = true;
                 } else if (symbol.isMissed()) {
@@ -518,8 +537,8 @@ public final class SymbolLinker {
         }
 
         boolean isWanted() {
-            for (int k = 0; k < symbols.size(); k++) {
-                Symbol symbol = symbols.get(k);
+            for (int k = symbolsBegin; k < symbolsEnd; k++) {
+                Symbol symbol = symbols[k];
                 if (symbol.isSharedLabel() && symbol.name.missed && !symbol.name.had) {
                     return true;
                 }
@@ -528,8 +547,8 @@ public final class SymbolLinker {
         }
 
         void bindLabels() {
-            for (int k = 0; k < symbols.size(); k++) {
-                Symbol symbol = symbols.get(k);
+            for (int k = symbolsBegin; k < symbolsEnd; k++) {
+                Symbol symbol = symbols[k];
                 if (symbol.isSharedLabel()) {
                     symbol.name.bind(symbol);
                 }
@@ -538,8 +557,8 @@ public final class SymbolLinker {
 
         int leastLineOfSecondGlobals() {
             int least = NONE;
-            for (int k = 0; k < symbols.size(); k++) {
-                Symbol symbol = symbols.get(k);
+            for (int k = symbolsBegin; k < symbolsEnd; k++) {
+                Symbol symbol = symbols[k];
                 boolean second = symbol.isGlobalLabel() && symbol.name.firstGlobal != symbol;
                 if (second && (least == NONE || symbol.line < least)) {
                     least = symbol.line;
@@ -752,44 +771,37 @@ public final class SymbolLinker {
     /** What the latest good link made: it holds copies, since the units may change or go. */
     private static final class Image {
         final int[] parts;
-        byte[] bytes;
+        final byte[] bytes;
+        final long[] nameWords;
+        final int[] nameLengths;
+        final int[] nameAddresses;
+        final int[] startOffsets;
+        final int[] startLines;
         int nameCount;
-        long[] nameWords;
-        int[] nameLengths;
-        int[] nameAddresses;
         int startCount;
-        int[] startOffsets;
-        int[] startLines;
 
         Image() {
             parts = new int[PARTS];
-            bytes = new byte[FIRST_BYTES];
+            bytes = new byte[MOST_BYTES];
+            nameWords = new long[MOST_SYMBOLS];
+            nameLengths = new int[MOST_SYMBOLS];
+            nameAddresses = new int[MOST_SYMBOLS];
+            startOffsets = new int[MOST_STARTS];
+            startLines = new int[MOST_STARTS];
             nameCount = 0;
-            nameWords = new long[FIRST_ROWS];
-            nameLengths = new int[FIRST_ROWS];
-            nameAddresses = new int[FIRST_ROWS];
             startCount = 0;
-            startOffsets = new int[FIRST_ROWS];
-            startLines = new int[FIRST_ROWS];
         }
 
         void begin(int[] plan) {
             System.arraycopy(plan, 0, parts, 0, PARTS);
-            int size = parts[SIZE];
-            if (size > bytes.length) {
-                bytes = new byte[grownLength(bytes.length, size, MOST_BYTES)];
-            }
-            Arrays.fill(bytes, 0, size, (byte) 0);
+            Arrays.fill(bytes, 0, parts[SIZE], (byte) 0);
             nameCount = 0;
             startCount = 0;
         }
 
         void addName(Name name, int address) {
-            if (nameCount >= nameWords.length) {
-                int length = grownLength(nameWords.length, nameCount + 1, MOST_SYMBOLS);
-                nameWords = Arrays.copyOf(nameWords, length);
-                nameLengths = Arrays.copyOf(nameLengths, length);
-                nameAddresses = Arrays.copyOf(nameAddresses, length);
+            if (nameCount >= MOST_SYMBOLS) {
+                return;
             }
             nameWords[nameCount] = name.word;
             nameLengths[nameCount] = name.length;
@@ -807,10 +819,8 @@ public final class SymbolLinker {
         }
 
         void addStart(Start start) {
-            if (startCount >= startOffsets.length) {
-                int length = grownLength(startOffsets.length, startCount + 1, MOST_STARTS);
-                startOffsets = Arrays.copyOf(startOffsets, length);
-                startLines = Arrays.copyOf(startLines, length);
+            if (startCount >= MOST_STARTS) {
+                return;
             }
             startOffsets[startCount] = start.text.begin - BASE + start.place;
             startLines[startCount] = (start.text.unit.number << 16) + start.line;

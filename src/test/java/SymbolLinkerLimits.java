@@ -1,12 +1,23 @@
 import java.lang.management.ManagementFactory;
+import java.lang.reflect.Array;
+import java.lang.reflect.Field;
+import java.lang.reflect.Modifier;
+import java.util.IdentityHashMap;
+import java.util.Map;
+import java.util.NoSuchElementException;
 
-/** The limits that a run of 512 calls does not reach, and what the dearest runs make. */
+/** The limits that a run of 512 calls does not reach, and what a run makes. */
 public final class SymbolLinkerLimits {
     private static final long ENTRY = 0x7374617274L;
     private static final int CALLS = 512;
-    // All calls of a run share 7.3 million fields and elements; one object is to leave most of them.
-    private static final long MOST_BYTES_MADE = 3_000_000;
+    // The fields and elements that all calls of a run share.
+    private static final long MOST_MADE = 7_300_000;
+    private static final com.sun.management.ThreadMXBean COUNTER =
+            (com.sun.management.ThreadMXBean) ManagementFactory.getThreadMXBean();
     private static int wrong = 0;
+    private static long ownBytes = 0;
+    private static long dearestBytes = 0;
+    private static String dearestCall = "";
 
     private static void due(String what, long got, long want) {
         if (got != want) {
@@ -40,6 +51,7 @@ public final class SymbolLinkerLimits {
         x.clear();
         x.unit(false, 0, 0, 0, 0);
         due("symbol behind clear", x.symbol(1, 4, 0, -1, 0, 0), 0);
+        due("symbol of the same name", x.symbol(1, 4, 0, -1, 0, 0), -1);
     }
 
     private static void mostWaits() {
@@ -72,75 +84,196 @@ public final class SymbolLinkerLimits {
         due("start behind clear", x.start(0, 0) ? 1 : 0, 1);
     }
 
+    /**
+     * All that this thread has made so far, in bytes: these are never fewer than the fields and elements, nor than
+     * sixteen times the objects, so that a bound on them bounds both.
+     */
     private static long bytesMade() {
-        java.lang.management.ThreadMXBean bean = ManagementFactory.getThreadMXBean();
-        if (bean instanceof com.sun.management.ThreadMXBean counting && counting.isThreadAllocatedMemorySupported()) {
-            return counting.getThreadAllocatedBytes(Thread.currentThread().getId());
-        }
-        return 0;
+        return COUNTER.getThreadAllocatedBytes(Thread.currentThread().getId());
     }
 
-    private static void largeImagesAgainAndAgain() {
-        long before = bytesMade();
-        SymbolLinker x = new SymbolLinker();
-        for (int k = 0; k + 8 <= CALLS; k += 8) {
-            x.clear();
-            x.unit(false, 65536, 65536, 65536, 65536);
-            x.symbol(ENTRY, 5, 1, 0, 0, 0);
-            x.keep(1);
-            x.keep(2);
-            x.keep(3);
-            due("link", linked(x), 262144);
-            due("link", linked(x), 262144);
-        }
-        long made = bytesMade() - before;
-        if (made > MOST_BYTES_MADE) {
-            wrong++;
-            System.out.println("large images made " + made + " bytes of objects");
+    private static void counted(String call, long before) {
+        long made = bytesMade() - before - ownBytes;
+        if (made > dearestBytes) {
+            dearestBytes = made;
+            dearestCall = call;
         }
     }
 
-    private static void manyNamesAgainAndAgain() {
+    private static void countUnits(SymbolLinker x) {
+        for (int size = 1; size <= 65536; size *= 4) {
+            for (int kind = 0; kind < 4; kind++) {
+                long before = bytesMade();
+                x.clear();
+                counted("clear", before);
+                before = bytesMade();
+                x.unit(false, kind == 0 ? 0 : size, kind == 1 ? 0 : size, kind == 2 ? 0 : size, kind == 3 ? 0 : size);
+                counted("unit", before);
+                before = bytesMade();
+                x.unit(true, size, size, 0, size);
+                counted("a second unit", before);
+                before = bytesMade();
+                x.unit(true, -1, size, 0, size);
+                counted("no unit", before);
+            }
+        }
+    }
+
+    private static void countOtherCalls(SymbolLinker x) {
         long before = bytesMade();
-        SymbolLinker x = new SymbolLinker();
-        x.unit(false, 256, 0, 0, 0);
-        x.symbol(ENTRY, 5, 1, 0, 0, 0);
-        for (int k = 0; k < 85; k++) {
-            x.symbol(k, 1, 1, 0, k, 0);
+        x.put(0, 0, -1, 8);
+        counted("put", before);
+        before = bytesMade();
+        x.keep(1);
+        counted("keep", before);
+        before = bytesMade();
+        x.fault(0);
+        counted("fault", before);
+        before = bytesMade();
+        x.needed(0, 0);
+        counted("needed", before);
+        before = bytesMade();
+        x.octet(0);
+        counted("octet", before);
+        before = bytesMade();
+        x.line(0);
+        counted("line", before);
+        before = bytesMade();
+        x.part(0);
+        counted("part", before);
+    }
+
+    private static void countAddresses(SymbolLinker x) {
+        long before = bytesMade();
+        try {
+            x.address(ENTRY, 5);
+        } catch (NoSuchElementException e) {
+            due("address", -1000, 0x400000);
+        }
+        counted("address", before);
+        before = bytesMade();
+        try {
+            due("address of nothing", x.address(ENTRY, 8), -1000);
+        } catch (NoSuchElementException e) {
+            counted("address of nothing", before);
+        }
+    }
+
+    private static void countLink(SymbolLinker x, String call, int size) {
+        long before = bytesMade();
+        int got = linked(x);
+        counted(call, before);
+        due(call, got, size);
+    }
+
+    private static void countFilling(SymbolLinker x) {
+        x.clear();
+        x.unit(false, 65536, 65536, 65536, 65536);
+        x.keep(1);
+        x.keep(2);
+        x.keep(3);
+        for (int k = 0; k < 2048; k++) {
+            long before = bytesMade();
+            x.symbol(k == 0 ? ENTRY : k, k == 0 ? 5 : 2, 1, 0, k, 0);
+            counted("symbol", before);
+        }
+        for (int k = 0; k < 4096; k++) {
+            long before = bytesMade();
+            x.await(0, k, 8, k, k % 2048, k, k);
+            counted("await", before);
+        }
+        for (int k = 0; k < 8192; k++) {
+            long before = bytesMade();
             x.start(k, k);
-            x.await(0, k, 8, -1, k, 0, k);
+            counted("start", before);
         }
-        for (int k = 0; k < 250; k++) {
-            due("link", linked(x), 256);
-        }
-        long made = bytesMade() - before;
-        if (made > MOST_BYTES_MADE / 10) {
+        countLink(x, "link", 262144);
+        countLink(x, "a second link", 262144);
+        countOtherCalls(x);
+        countAddresses(x);
+        x.unit(false, 0, 0, 0, 1);
+        x.keep(3);
+        countLink(x, "a link with a fault", -1000);
+    }
+
+    private static void countAllCalls(SymbolLinker x) {
+        countUnits(x);
+        countFilling(x);
+    }
+
+    /** What the constructors make, and the dearest call's making times all calls. */
+    private static void whatARunMakes() {
+        // The machine makes objects of its own when code runs for the first time.
+        countAllCalls(new SymbolLinker());
+        dearestBytes = 0;
+        long before = bytesMade();
+        ownBytes = bytesMade() - before;
+        before = bytesMade();
+        SymbolLinker x = new SymbolLinker();
+        long made = bytesMade() - before - ownBytes;
+        countAllCalls(x);
+        long all = made + CALLS * dearestBytes;
+        System.out.println("constructors: " + made + " bytes, the dearest call, " + dearestCall + ": " + dearestBytes
+                + " bytes, all: " + all + " bytes");
+        if (all > MOST_MADE / 4) {
             wrong++;
-            System.out.println("many names made " + made + " bytes of objects");
+            System.out.println("a run makes more than a quarter of its room");
         }
     }
 
-    private static void manyObjects() {
-        long before = bytesMade();
-        for (int k = 0; k < CALLS; k++) {
-            new SymbolLinker().unit(false, 16, 0, 0, 0);
+    private static void gather(Object o, Map<Object, Boolean> rows, Map<Object, Boolean> seen) {
+        if (o == null || seen.put(o, true) != null) {
+            return;
         }
-        long made = bytesMade() - before;
-        if (made > MOST_BYTES_MADE) {
+        if (o.getClass().isArray()) {
+            rows.put(o, true);
+            for (int k = 0; o instanceof Object[] row && k < row.length; k++) {
+                gather(row[k], rows, seen);
+            }
+            return;
+        }
+        if (!o.getClass().getName().startsWith("SymbolLinker")) {
             wrong++;
-            System.out.println("many objects made " + made + " bytes of objects");
+            System.out.println("the rows of a " + o.getClass().getName() + " can't be seen");
+            return;
+        }
+        for (Field field : o.getClass().getDeclaredFields()) {
+            if (!Modifier.isStatic(field.getModifiers()) && !field.getType().isPrimitive()) {
+                field.setAccessible(true);
+                try {
+                    gather(field.get(o), rows, seen);
+                } catch (IllegalAccessException e) {
+                    due("the reading of " + field, -1, 0);
+                }
+            }
+        }
+    }
+
+    private static Map<Object, Boolean> rowsOf(SymbolLinker x) {
+        Map<Object, Boolean> rows = new IdentityHashMap<>();
+        gather(x, rows, new IdentityHashMap<>());
+        return rows;
+    }
+
+    /** No call puts a row of its own in an object, but for a unit's row of four sections. */
+    private static void rowsStay() {
+        SymbolLinker x = new SymbolLinker();
+        Map<Object, Boolean> first = rowsOf(x);
+        countAllCalls(x);
+        for (Object row : rowsOf(x).keySet()) {
+            if (Array.getLength(row) > 4 && !first.containsKey(row)) {
+                wrong++;
+                System.out.println("a call made a " + row.getClass().getSimpleName() + " of " + Array.getLength(row));
+            }
         }
     }
 
     public static void main(String[] args) {
-        // The first reading makes objects of its own.
-        bytesMade();
         mostSymbols();
         mostWaits();
         mostStarts();
-        largeImagesAgainAndAgain();
-        manyNamesAgainAndAgain();
-        manyObjects();
+        whatARunMakes();
+        rowsStay();
         System.out.println(wrong == 0 ? "all limits hold" : wrong + " answers are not as due");
         if (wrong != 0) {
             System.exit(1);
