@@ -34,21 +34,42 @@ public final class SymbolLinkerLimits {
         }
     }
 
+    private static int addressOf(SymbolLinker x, long word, int n) {
+        try {
+            return x.address(word, n);
+        } catch (NoSuchElementException e) {
+            return -1000;
+        }
+    }
+
+    /** Twice, since clear() makes room for as many as at first. */
     private static void mostSymbols() {
         SymbolLinker x = new SymbolLinker();
-        x.unit(false, 16, 0, 0, 0);
-        x.symbol(ENTRY, 5, 1, 0, 0, 0);
-        for (int k = 1; k < 1500; k++) {
-            due("symbol", x.symbol(k, 2, 1, 0, 5, 0), k);
+        for (int round = 0; round < 2; round++) {
+            x.unit(false, 2048, 0, 0, 0);
+            due("ENTRY", x.symbol(ENTRY, 5, 1, 0, 0, 0), 0);
+            for (int k = 1; k < 1500; k++) {
+                due("symbol", x.symbol(k, 2, 1, 0, k, 0), k);
+            }
+            x.unit(false, 2048, 0, 0, 0);
+            x.keep(0);
+            for (int k = 0; k < 548; k++) {
+                due("symbol", x.symbol(k, 3, 1, 0, k, 0), k);
+            }
+            due("missing symbol 2048", x.symbol(1, 4, 0, -1, 0, 0), -1);
+            due("label 2048", x.symbol(1, 4, 1, 0, 0, 0), -1);
+            due("a name that the unit has", x.symbol(547, 3, 1, 0, 0, 0), -1);
+            due("a number that no symbol has", x.await(0, 0, 4, -1, 548, 0, 0) ? 1 : 0, 0);
+            due("a unit without room for symbols", x.unit(false, 0, 0, 0, 0), 2);
+            due("its symbol", x.symbol(1, 1, 1, 0, 0, 0), -1);
+            due("link", linked(x), 4096);
+            due("ENTRY", addressOf(x, ENTRY, 5), 0x400000);
+            due("the last name of unit 0", addressOf(x, 1499, 2), 0x400000 + 1499);
+            due("the first name of unit 1", addressOf(x, 0, 3), 0x400800);
+            due("the last name of all", addressOf(x, 547, 3), 0x400800 + 547);
+            due("a refused name", addressOf(x, 1, 4), -1000);
+            x.clear();
         }
-        x.unit(false, 0, 0, 0, 0);
-        for (int k = 0; k < 548; k++) {
-            due("symbol", x.symbol(k, 3, 1, 0, 0, 0), k);
-        }
-        due("symbol 2048", x.symbol(1, 4, 0, -1, 0, 0), -1);
-        due("link", linked(x), 16);
-        due("the last name of unit 0", x.address(1499, 2), 0x400005);
-        x.clear();
         x.unit(false, 0, 0, 0, 0);
         due("symbol behind clear", x.symbol(1, 4, 0, -1, 0, 0), 0);
         due("symbol of the same name", x.symbol(1, 4, 0, -1, 0, 0), -1);
@@ -56,30 +77,55 @@ public final class SymbolLinkerLimits {
 
     private static void mostWaits() {
         SymbolLinker x = new SymbolLinker();
-        x.unit(false, 65536, 0, 0, 0);
-        x.symbol(ENTRY, 5, 1, 0, 0, 0);
-        for (int k = 0; k < 4096; k++) {
-            due("await", x.await(0, 8 * k, 8, -1, -1, k, 0) ? 1 : 0, 1);
+        for (int round = 0; round < 2; round++) {
+            x.unit(false, 16384, 0, 0, 0);
+            x.symbol(ENTRY, 5, 1, 0, 0, 0);
+            for (int k = 0; k < 2048; k++) {
+                due("await", x.await(0, 8 * k, 8, -1, -1, k, 0) ? 1 : 0, 1);
+            }
+            x.unit(false, 16384, 8, 0, 0);
+            x.keep(0);
+            for (int k = 2048; k < 4096; k++) {
+                due("await", x.await(0, 8 * (k - 2048), 8, -1, -1, k, 0) ? 1 : 0, 1);
+            }
+            due("await 4096", x.await(0, 16376, 8, -1, -1, -1, 0) ? 1 : 0, 0);
+            due("await 4096 of a section", x.await(0, 0, 4, -1, -3, 0, 0) ? 1 : 0, 0);
+            due("await 4096 that does not fit", x.await(0, 0, 4, -1, -1, 1L << 40, 0) ? 1 : 0, 0);
+            due("link", linked(x), 32768);
+            due("a refused one's section", x.needed(1, 1), 0);
+            due("the first one's byte", x.octet(0), 0);
+            due("the last one's low byte", x.octet(32760), 255);
+            due("the last one's next byte", x.octet(32761), 15);
+            due("the last one's last byte", x.octet(32767), 0);
+            x.clear();
         }
-        due("await 4096", x.await(0, 0, 8, -1, -1, 0, 0) ? 1 : 0, 0);
-        due("link", linked(x), 65536);
-        due("the last one's byte", x.octet(8 * 4095 + 1), 15);
-        x.clear();
         x.unit(false, 8, 0, 0, 0);
         due("await behind clear", x.await(0, 0, 8, -1, -1, 0, 0) ? 1 : 0, 1);
     }
 
     private static void mostStarts() {
         SymbolLinker x = new SymbolLinker();
-        x.unit(false, 65536, 0, 0, 0);
-        x.symbol(ENTRY, 5, 1, 0, 0, 0);
-        for (int k = 0; k < 8192; k++) {
-            due("start", x.start(k, k) ? 1 : 0, 1);
+        for (int round = 0; round < 2; round++) {
+            x.unit(false, 8192, 0, 0, 0);
+            x.symbol(ENTRY, 5, 1, 0, 0, 0);
+            for (int k = 0; k < 4096; k++) {
+                due("start", x.start(k, k) ? 1 : 0, 1);
+            }
+            x.unit(false, 8192, 0, 0, 0);
+            x.keep(0);
+            for (int k = 4096; k < 8192; k++) {
+                due("start", x.start(k, k) ? 1 : 0, 1);
+            }
+            due("start 8192", x.start(9, 0) ? 1 : 0, 0);
+            due("start 8192 at a place of before", x.start(8191, 0) ? 1 : 0, 0);
+            due("link", linked(x), 16384);
+            due("the first one's line", x.line(0), 0);
+            due("the last one's line in unit 0", x.line(4095), 4095);
+            due("behind it", x.line(4096), -1);
+            due("a refused one's line", x.line(8192 + 9), -1);
+            due("the last one's line", x.line(8192 + 8191), 65536 + 8191);
+            x.clear();
         }
-        due("start 8192", x.start(9000, 0) ? 1 : 0, 0);
-        due("link", linked(x), 65536);
-        due("the last one's line", x.line(8191), 8191);
-        x.clear();
         x.unit(false, 8, 0, 0, 0);
         due("start behind clear", x.start(0, 0) ? 1 : 0, 1);
     }
