@@ -1466,6 +1466,42 @@ public final class SymbolLinkerBoundaries {
         due("a missing one, with both marks, and a global one", meaningOf(3, -1, "wg"), second);
     }
 
+    private static void earlierWeakLabels() {
+        SymbolLinker x = new SymbolLinker();
+        x.unit(false, 16, 16, 0, 0);
+        weak(x, "w", 1, 3);
+        x.unit(false, 16, 0, 0, 0);
+        global(x, "start", 0, 0);
+        x.await(0, 0, 8, -1, weak(x, "w", 0, 5), 0, 0);
+        x.await(0, 8, 8, -1, missing(x, "v"), 0, 0);
+        x.unit(false, 16, 0, 0, 0);
+        weak(x, "v", 0, 7);
+        due("link()", linked(x), PAGE + 16);
+        due("the first weak one, not its own", octets(x, 0, 8), BASE + PAGE + 3);
+        due("the weak one of a later unit", octets(x, 8, 8), BASE + 16 + 7);
+        dueNeeded(x, 0, 0, 1, 0, 0);
+        dueNeeded(x, 1, 1, 0, 0, 0);
+        dueNeeded(x, 2, 1, 0, 0, 0);
+    }
+
+    private static void labelsOfEmptySections() {
+        for (int marks = 1; marks <= 2; marks++) {
+            for (int section = 0; section < 4; section++) {
+                SymbolLinker x = withEntry(8, 0, 0, 0);
+                x.await(0, 0, 8, -1, missing(x, "e"), 0, 0);
+                x.unit(true, 0, 0, 0, 0);
+                symbol(x, "e", marks, section, 0, 0);
+                int at = section == 0 ? 16 : PAGE;
+                due("link()", linked(x), at);
+                due("its value", octets(x, 0, 8), BASE + at);
+                due("its address", addressOf(x, "e"), BASE + at);
+                for (int other = 0; other < 4; other++) {
+                    due("needed(1, " + other + ")", x.needed(1, other), other == section ? 1 : 0);
+                }
+            }
+        }
+    }
+
     private static void addressZero() {
         SymbolLinker x = withEntry(32, 8, 8, 8);
         int nothing = weaklyMissing(x, "w");
@@ -1970,6 +2006,7 @@ public final class SymbolLinkerBoundaries {
         symbol(x, "b", 1, 0, 0, 501);
         symbol(x, "a", 1, 0, 0, 500);
         symbol(x, "c", 1, 0, 0, 502);
+        symbol(x, "later", 1, 0, 0, 1);
         x.unit(false, 8, 0, 0, 0);
         symbol(x, "a", 1, 0, 0, 3);
         symbol(x, "new", 1, 0, 0, 4);
@@ -2685,6 +2722,8 @@ public final class SymbolLinkerBoundaries {
         holds("9, again and again, till there is none", SymbolLinkerBoundaries::fullChainOfLibraries);
         holds("9, the first library unit", SymbolLinkerBoundaries::theFirstLibraryAgain);
         holds("9, every other symbol stands for", SymbolLinkerBoundaries::meaningsOfSymbols);
+        holds("9, else the first weak one there", SymbolLinkerBoundaries::earlierWeakLabels);
+        holds("9, a label of an empty section", SymbolLinkerBoundaries::labelsOfEmptySections);
         holds("9, for the address 0", SymbolLinkerBoundaries::addressZero);
         holds("9, some needed section waits for: full", SymbolLinkerBoundaries::fullChainOfSections);
         holds("9, the others are left out", SymbolLinkerBoundaries::leftOutSectionsNeedNothing);
